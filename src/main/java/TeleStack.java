@@ -848,7 +848,6 @@ public final class TeleStack {
     private void read(int cell, Received received) {
       if (cellsRead == 0) {
         tag = cell;
-        length = 0;
         sum = 0;
       } else if (cellsRead == 1) {
         length = cell;

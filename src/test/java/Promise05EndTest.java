@@ -2,6 +2,7 @@ final class Promise05EndTest {
   public static void main(String[] args) {
     everyBusyModeEnds();
     listSlotAndTimerAreEmptied();
+    noOldMarkIsLeft();
     whatIsOnItsWayStays();
     anIdleGroundIsRefused();
     Check.close();
@@ -31,7 +32,17 @@ final class Promise05EndTest {
     Check.due("tick(): slot and list are empty", x.tick(), -1);
     Scene.send(x, 4);
     Check.row("the next frame", Scene.flight(x, 3), 0, 2, 4);
-    Check.due("none of the old marks is left", x.ground(4), 0);
+  }
+
+  private static void noOldMarkIsLeft() {
+    TeleStack x = Scene.groundIn(Scene.RESENDING);
+    Check.due("marked", x.ground(4), 1);
+    x.end();
+    Check.due("marked after the end", x.ground(4), 0);
+    x.begin(0);
+    Scene.send(x, 4);
+    Check.due("marked in its place", x.ground(4), 0);
+    Check.due("tick() sends it once", x.tick(), -1);
   }
 
   private static void whatIsOnItsWayStays() {

@@ -70,20 +70,6 @@ final class Scene {
     }
   }
 
-  static void raiseAll(TeleStack x) {
-    int many = x.ground(9);
-    for (int i = 0; i < many; i++) {
-      x.raise(0);
-    }
-  }
-
-  static void dropAll(TeleStack x) {
-    int many = x.ground(9);
-    for (int i = 0; i < many; i++) {
-      x.drop(0);
-    }
-  }
-
   /** The spacecraft's state comes to the ground at once. */
   static void hear(TeleStack x) {
     x.report();
