@@ -36,8 +36,8 @@ final class Promise17FlightTest {
   }
 
   private static void noSuchFrameIsRefused() {
-    TeleStack x = threeKinds();
     for (int k : new int[] {-1, 3, 20, Integer.MIN_VALUE, Integer.MAX_VALUE}) {
+      TeleStack x = threeKinds();
       Check.refused("flight", x, IndexOutOfBoundsException.class, () -> x.flight(k, 0));
       Check.refused("flight", x, IndexOutOfBoundsException.class, () -> x.flight(k, 3));
     }

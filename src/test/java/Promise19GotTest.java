@@ -36,8 +36,8 @@ final class Promise19GotTest {
   }
 
   private static void noSuchPacketIsRefused() {
-    TeleStack x = twoPackets();
     for (int k : new int[] {-1, 2, 40, Integer.MIN_VALUE, Integer.MAX_VALUE}) {
+      TeleStack x = twoPackets();
       Check.refused("got", x, NoSuchElementException.class, () -> x.got(k, 0));
       Check.refused("got", x, NoSuchElementException.class, () -> x.got(k, 4));
     }
