@@ -32,6 +32,15 @@ final class Check {
   static void refused(
       String what, TeleStack x, Class<? extends RuntimeException> kind, Runnable call) {
     String before = Scene.allOf(x);
+    throwing(what, kind, call);
+    String after = Scene.allOf(x);
+    if (!after.equals(before)) {
+      complain(what + " threw and changed " + before + " to " + after);
+    }
+  }
+
+  /** The call throws just this exception, not even one that extends it. */
+  static void throwing(String what, Class<? extends RuntimeException> kind, Runnable call) {
     Class<?> thrown = null;
     try {
       call.run();
@@ -41,10 +50,6 @@ final class Check {
     asked++;
     if (thrown != kind) {
       complain(what + " threw " + thrown + ", due is " + kind);
-    }
-    String after = Scene.allOf(x);
-    if (!after.equals(before)) {
-      complain(what + " threw and changed " + before + " to " + after);
     }
   }
 
