@@ -2,8 +2,17 @@ import java.util.Arrays;
 
 /** Counts and prints the answers that are not the ones that are due. */
 final class Check {
+  private static final long MOST_MILLIS = 180_000;
+
   private static int asked = 0;
   private static int wrong = 0;
+
+  static {
+    // A call that does not end is a wrong answer too, and must not hold up all the other tests.
+    Thread watch = new Thread(Check::giveUp);
+    watch.setDaemon(true);
+    watch.start();
+  }
 
   private Check() {}
 
@@ -51,6 +60,16 @@ final class Check {
     if (thrown != kind) {
       complain(what + " threw " + thrown + ", due is " + kind);
     }
+  }
+
+  private static void giveUp() {
+    try {
+      Thread.sleep(MOST_MILLIS);
+    } catch (InterruptedException e) {
+      return;
+    }
+    System.out.println("the test does not end");
+    Runtime.getRuntime().halt(1);
   }
 
   static void complain(String text) {
