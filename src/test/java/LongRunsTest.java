@@ -1,10 +1,15 @@
 import java.util.Random;
 import java.util.function.LongSupplier;
 
-/** Runs of 512 calls, by fixed seeds, on the program and on the model: every answer is the same. */
+/**
+ * Runs of 512 calls, by fixed seeds, on the program and on the model: every answer is the same. Half
+ * of the runs end with all that can be asked.
+ */
 final class LongRunsTest {
   private static final int RUNS = 6000;
   private static final int CALLS = 512;
+  // 11 of the ground, 6 of the craft, 3 of each of 20 up frames, the packets and 4 of each of 40.
+  private static final int CALLS_TO_ASK_ALL = 11 + 6 + 3 * 20 + 1 + 4 * 40;
 
   private final Random random;
   private final TeleStack x = new TeleStack();
@@ -30,14 +35,36 @@ final class LongRunsTest {
   }
 
   private void run(int seed) {
-    for (int i = 0; i < CALLS; i++) {
+    boolean asksAll = seed % 2 == 1;
+    int calls = asksAll ? CALLS - CALLS_TO_ASK_ALL : CALLS;
+    for (int i = 0; i < calls; i++) {
       String call = chance(down) ? callDown() : chance(30) ? callAsk() : callUp();
       if (call != null) {
         Check.complain("seed " + seed + ", call " + i + ": " + call);
         return;
       }
     }
+    if (asksAll) {
+      askAll(seed);
+    }
     Check.due("runs", 1, 1);
+  }
+
+  private void askAll(int seed) {
+    String at = "seed " + seed + ", at the end: ";
+    for (int what = 0; what <= 10; what++) {
+      Check.due(at + "ground " + what, x.ground(what), m.ground(what));
+    }
+    for (int what = 0; what <= 5; what++) {
+      Check.due(at + "craft " + what, x.craft(what), m.craft(what));
+    }
+    for (int i = 0; i < 3 * m.ground(9); i++) {
+      Check.due(at + "flight " + i, x.flight(i / 3, i % 3), m.flight(i / 3, i % 3));
+    }
+    Check.due(at + "packets", x.packets(), m.packets());
+    for (int i = 0; i < 4 * m.packets(); i++) {
+      Check.due(at + "got " + i, x.got(i / 4, i % 4), m.got(i / 4, i % 4));
+    }
   }
 
   private boolean chance(int percent) {
